@@ -103,13 +103,32 @@ public final class Promise07StopsTest {
         Check.due("stopped()", mill.stopped(), 3);
         Check.due("R1", mill.register(1), 103);
         Check.due("R2", mill.register(2), 200);
+        // So does an address of the source that cannot be read: ADD @(R1)+, (R2)+
+        mill = Mills.with(0063122);
+        mill.set(1, 101);
+        mill.set(2, 200);
+        Check.due("ADD @(R1)+, (R2)+", mill.step(), -1);
+        Check.due("stopped()", mill.stopped(), 3);
+        Check.due("R1", mill.register(1), 103);
+        Check.due("R2", mill.register(2), 200);
         // An index word beyond memory: CLR x(R1) at the end
-        mill = new MicroMill();
+        mill = Mills.with(9);
         mill.poke(4094, 0005061);
         mill.set(7, 4094);
+        Mills.giveFlags(mill, 11);
         Check.due("CLR x(R1) at 4094", mill.step(), -1);
         Check.due("stopped()", mill.stopped(), 4);
         Check.due("R7", mill.register(7), 4098);
+        Check.due("peek(0)", mill.peek(0), 9);
+        Check.due("flags()", mill.flags(), 11);
+        // The same of the source: MOV x(R1), (R2)+ at the end
+        mill = Mills.with(9);
+        mill.poke(4094, 0016122);
+        mill.set(7, 4094);
+        mill.set(2, 200);
+        Check.due("MOV x(R1), (R2)+ at 4094", mill.step(), -1);
+        Check.due("stopped()", mill.stopped(), 4);
+        Check.due("R2", mill.register(2), 200);
         // The same of mode 7: the first stop is the one that counts, and nothing is read after it.
         mill = new MicroMill();
         mill.poke(4094, 0005071);
