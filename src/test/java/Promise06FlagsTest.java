@@ -7,6 +7,7 @@ public final class Promise06FlagsTest {
             }
         }
         isTheWorksFlags();
+        staysWhenStopped();
         Check.end();
     }
 
@@ -31,6 +32,17 @@ public final class Promise06FlagsTest {
         for (int i = 0; i < due.length; i++) {
             mill.step();
             Check.due("flags() after instruction " + i, mill.flags(), due[i]);
+        }
+    }
+
+    private static void staysWhenStopped() {
+        for (int flags = 0; flags < 16; flags++) {
+            MicroMill mill = Mills.with(0000000);
+            Mills.giveFlags(mill, flags);
+            mill.step();
+            Check.due("flags() of a stopped machine", mill.flags(), flags);
+            mill.go();
+            Check.due("flags() after go()", mill.flags(), flags);
         }
     }
 }

@@ -174,16 +174,37 @@ public final class Promise07StopsTest {
         }
     }
 
+    /** What stops a machine for each of the four reasons; R1 is 1 and R2 4096. */
     private static void doesNothingWhenStopped() {
-        MicroMill mill = Mills.with(0000000, 0005201, 0005202);
+        stayStopped(0000000, 1);
+        stayStopped(0000001, 2);
+        stayStopped(0005711, 3);
+        stayStopped(0005712, 4);
+    }
+
+    private static void stayStopped(int word, int reason) {
+        // INC R3 and INC (R4) would come next.
+        MicroMill mill = Mills.with(word, 0005203, 0005214);
+        mill.set(1, 1);
+        mill.set(2, 4096);
+        mill.set(4, 100);
+        Mills.giveFlags(mill, 15);
+        long cycles = mill.cycles();
         mill.step();
         for (int i = 0; i < 3; i++) {
-            Check.due("step() when stopped", mill.step(), -1);
-            Check.due("run(5) when stopped", mill.run(5), 0);
-            Check.due("R7", mill.register(7), 2);
-            Check.due("R1", mill.register(1), 0);
-            Check.due("stopped()", mill.stopped(), 1);
-            Check.due("cycles()", mill.cycles(), 0);
+            Check.due("step() when stopped by " + reason, mill.step(), -1);
+            Check.due("run(5) when stopped by " + reason, mill.run(5), 0);
+            Check.due("register(7)", mill.register(7), 2);
+            Check.due("register(3)", mill.register(3), 0);
+            Check.due("peek(100)", mill.peek(100), 0);
+            Check.due("flags()", mill.flags(), 15);
+            Check.due("stopped()", mill.stopped(), reason);
+            Check.due("cycles()", mill.cycles(), cycles);
         }
+        // R7 set anew does not make it go.
+        mill.set(7, 2);
+        Check.due("step() when stopped by " + reason + ", R7 2", mill.step(), -1);
+        Check.due("register(7)", mill.register(7), 2);
+        Check.due("register(3)", mill.register(3), 0);
     }
 }
