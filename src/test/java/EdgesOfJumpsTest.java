@@ -143,7 +143,7 @@ public final class EdgesOfJumpsTest {
     }
 
     private static void rts() {
-        String sentence = "RTS: R7 becomes R, then R6 becomes R6 + 2, then R the word at the address that R6 was before (3).";
+        String sentence = "RTS: R7 becomes R, then R6 becomes R6 + 2, then R the word that R6 was the address of (3).";
         int[] targets = {0, 1, 4094, 4095, 4096, 65535};
         for (int target : targets) {
             for (int r = 0; r < 6; r++) {
