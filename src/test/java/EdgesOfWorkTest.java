@@ -26,9 +26,13 @@ public final class EdgesOfWorkTest {
     public static void main(String[] args) {
         for (int i = 0; i < 2; i++) {
             EdgesOfWorkTest work = new EdgesOfWorkTest(i == 1);
-            work.logic();
+            work.mov();
             work.cmp();
-            work.clrAndTst();
+            work.bit();
+            work.bic();
+            work.bis();
+            work.clr();
+            work.tst();
             work.com();
             work.inc();
             work.dec();
@@ -55,23 +59,41 @@ public final class EdgesOfWorkTest {
         code = bytes ? word | 0100000 : word;
     }
 
-    private void logic() {
+    private void mov() {
+        take("MOV: s: V 0, C as it was.", 0010000);
         for (int before = 0; before < 16; before++) {
             int c = before & C;
-            take("MOV: s: V 0, C as it was.", 0010000);
             two(0, all, before, 0, Z + c);
             two(h, 0, before, h, N + c);
             two(h - 1, all, before, h - 1, c);
-            take("BIT: s and d: V 0, C as it was.", 0030000);
+        }
+    }
+
+    private void bit() {
+        take("BIT: s and d: V 0, C as it was.", 0030000);
+        for (int before = 0; before < 16; before++) {
+            int c = before & C;
             two(h, h - 1, before, h - 1, Z + c);
             two(all, h, before, h, N + c);
             two(1, all, before, all, c);
-            take("BIC: d without the bits of s: V 0, C as it was.", 0040000);
+        }
+    }
+
+    private void bic() {
+        take("BIC: d without the bits of s: V 0, C as it was.", 0040000);
+        for (int before = 0; before < 16; before++) {
+            int c = before & C;
             two(all, all, before, 0, Z + c);
             two(0, all, before, all, N + c);
             two(h, all, before, h - 1, c);
             two(all, 0, before, 0, Z + c);
-            take("BIS: s or d: V 0, C as it was.", 0050000);
+        }
+    }
+
+    private void bis() {
+        take("BIS: s or d: V 0, C as it was.", 0050000);
+        for (int before = 0; before < 16; before++) {
+            int c = before & C;
             two(0, 0, before, 0, Z + c);
             two(h, 1, before, h + 1, N + c);
             two(1, h - 1, before, h - 1, c);
@@ -135,13 +157,18 @@ public final class EdgesOfWorkTest {
         }
     }
 
-    private void clrAndTst() {
+    private void clr() {
+        take("CLR: 0: V 0, C 0.", 0005000);
         for (int before = 0; before < 16; before++) {
-            take("CLR: 0: V 0, C 0.", 0005000);
             one(0, before, 0, Z);
             one(all, before, 0, Z);
             one(h, before, 0, Z);
-            take("TST: d: V 0, C 0.", 0005700);
+        }
+    }
+
+    private void tst() {
+        take("TST: d: V 0, C 0.", 0005700);
+        for (int before = 0; before < 16; before++) {
             one(0, before, 0, Z);
             one(1, before, 1, 0);
             one(h - 1, before, h - 1, 0);

@@ -9,12 +9,10 @@ public final class Promise02And03MemoryTest {
         keepsLowestBits();
         keepsEveryWord();
         hasItsEnds();
-        for (int address : ODD) {
-            refuses("false if it is odd", address);
-        }
-        for (int address : BEYOND) {
-            refuses("false if it is beyond memory", address);
-        }
+        pokeRefusesOddAddresses();
+        pokeRefusesWhatIsBeyond();
+        peekHasNoneAtOddAddresses();
+        peekHasNoneBeyond();
         changesNothingElse();
         peeksWhatInstructionsPut();
         peeksAllSixteenBits();
@@ -62,19 +60,49 @@ public final class Promise02And03MemoryTest {
         Check.due("peek(4096)", mill.peek(4096), -1);
     }
 
+    private static void pokeRefusesOddAddresses() {
+        for (int address : ODD) {
+            pokeRefuses(address);
+        }
+    }
+
+    private static void pokeRefusesWhatIsBeyond() {
+        for (int address : BEYOND) {
+            pokeRefuses(address);
+        }
+    }
+
     /** A refused call changes no word, neither beside it nor where its lowest bits would lead. */
-    private static void refuses(String why, int address) {
+    private static void pokeRefuses(int address) {
         MicroMill mill = new MicroMill();
         int[] near = {0, 2, 4092, 4094, address & 4094, address - 1 & 4094, address + 1 & 4094};
         for (int place : near) {
             mill.poke(place, place + 1);
         }
-        Check.due("poke(" + address + ", 5): " + why, mill.poke(address, 5), false);
-        Check.due("peek(" + address + "): NONE, " + why, mill.peek(address), MicroMill.NONE);
+        Check.due("poke(" + address + ", 5)", mill.poke(address, 5), false);
         for (int place : near) {
             Check.due("peek(" + place + ") after poke(" + address + ", 5)", mill.peek(place), place + 1);
         }
         Check.due("stopped() after poke(" + address + ", 5)", mill.stopped(), 0);
+    }
+
+    private static void peekHasNoneAtOddAddresses() {
+        for (int address : ODD) {
+            peekHasNone(address);
+        }
+    }
+
+    private static void peekHasNoneBeyond() {
+        for (int address : BEYOND) {
+            peekHasNone(address);
+        }
+    }
+
+    private static void peekHasNone(int address) {
+        MicroMill mill = new MicroMill();
+        mill.poke(address & 4094, 5);
+        Check.due("peek(" + address + ")", mill.peek(address), MicroMill.NONE);
+        Check.due("stopped() after peek(" + address + ")", mill.stopped(), 0);
     }
 
     private static void changesNothingElse() {

@@ -7,7 +7,8 @@ public final class Promise04And05RegisterTest {
     public static void main(String[] args) {
         areEightOfTheirOwn();
         keepLowestBits();
-        refuses();
+        setRefuses();
+        registerHasNone();
         changesNothingElse();
         givesSevenAnyAddress();
         worksWhenStopped();
@@ -44,15 +45,22 @@ public final class Promise04And05RegisterTest {
         }
     }
 
-    private static void refuses() {
+    private static void setRefuses() {
         for (int none : THERE_IS_NONE) {
             MicroMill mill = filled();
             Check.due("set(" + none + ", 5)", mill.set(none, 5), false);
-            Check.due("register(" + none + ")", mill.register(none), MicroMill.NONE);
             for (int r = 0; r < 8; r++) {
                 Check.due("register(" + r + ") after set(" + none + ", 5)", mill.register(r), 1000 + r);
             }
             Check.due("stopped() after set(" + none + ", 5)", mill.stopped(), 0);
+        }
+    }
+
+    private static void registerHasNone() {
+        for (int none : THERE_IS_NONE) {
+            MicroMill mill = filled();
+            Check.due("register(" + none + ")", mill.register(none), MicroMill.NONE);
+            Check.due("stopped() after register(" + none + ")", mill.stopped(), 0);
         }
     }
 
